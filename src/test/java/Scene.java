@@ -1,0 +1,68 @@
+import java.util.Arrays;
+import java.util.function.LongSupplier;
+
+/** Objects that are loaded with a text, and calls of which the whole effect is looked at. */
+final class Scene {
+    private final Check check;
+
+    Scene(Check check) {
+        this.check = check;
+    }
+
+    static void type(ClaimedTasks x, String text) {
+        for (char c : text.toCharArray()) {
+            x.append(c);
+        }
+    }
+
+    static ClaimedTasks typed(String text) {
+        ClaimedTasks x = new ClaimedTasks();
+        type(x, text);
+        return x;
+    }
+
+    static ClaimedTasks loaded(String text) {
+        ClaimedTasks x = typed(text);
+        x.load();
+        return x;
+    }
+
+    /** All numbers that can be asked of the state. */
+    static int[] allOf(ClaimedTasks x) {
+        int[] all = new int[8 + 6 * 8 + 8 * 7 + 48 * 4];
+        int n = 0;
+        for (int what = 0; what <= 7; what++) {
+            all[n++] = x.about(what);
+        }
+        for (int a = 0; a < x.about(0); a++) {
+            for (int what = 0; what <= 7; what++) {
+                all[n++] = x.agent(a, what);
+            }
+            for (int t = 0; t < x.about(1); t++) {
+                for (int what = 0; what <= 3; what++) {
+                    all[n++] = x.note(a, t, what);
+                }
+            }
+        }
+        for (int t = 0; t < x.about(1); t++) {
+            for (int what = 0; what <= 6; what++) {
+                all[n++] = x.task(t, what);
+            }
+        }
+        return Arrays.copyOf(all, n);
+    }
+
+    /** The call throws what is due, and the state stays as it was. */
+    void refused(ClaimedTasks x, String call, LongSupplier made, Class<? extends RuntimeException> want) {
+        int[] before = allOf(x);
+        check.throwsDue(call, made, want);
+        check.isTrue(call + " changed the state though it threw", Arrays.equals(before, allOf(x)));
+    }
+
+    /** The call answers what is due, and the state stays as it was. */
+    void asked(ClaimedTasks x, String call, LongSupplier made, long want) {
+        int[] before = allOf(x);
+        check.due(call, made.getAsLong(), want);
+        check.isTrue(call + " changed the state", Arrays.equals(before, allOf(x)));
+    }
+}
