@@ -47,6 +47,13 @@ public final class ForecastTest {
         ClaimedTasks y = Scene.loaded("C05a000000a010000a020000a110000a100000a090000t00091t11091");
         y.step(1);
         conflictsAre(y, 2, 0, 0);
+        // Agent 0 keeps the claims of the others, which fall out.
+        ClaimedTasks z = Scene.loaded("C09a000022a050022a060022t00009t05009t06009");
+        z.step(2);
+        z.toggle(2);
+        conflictsAre(z, 0, 0, 2);
+        z.toggle(1);
+        conflictsAre(z, 0, 0, 2);
         for (int bad : new int[] {-1, 3, Integer.MIN_VALUE, Integer.MAX_VALUE}) {
             SCENE.refused(x, "conflicts " + bad, () -> x.conflicts(bad), ARGUMENT);
         }
@@ -201,6 +208,14 @@ public final class ForecastTest {
         // Each agent stands on a task of its own, in opposite order.
         shareIs("all in opposite order", Scene.loaded("C05a000000a010000a020000a030000a040000a050000"
                 + "t11111t11101t05001t04001t03001t02001t01001t00001"), 0, 7, 6, 5, 4, 3, 2);
+        shareIs("one in the middle gets none", Scene.loaded("C05a000000a050500a090000t00001t09001"), 0, 0, -9, 1);
+        // What was found for many agents must not be left over for few.
+        ClaimedTasks x = Scene.loaded("C05" + "a000000".repeat(6) + "t11111".repeat(8));
+        x.bestShare(-1);
+        x.clearText();
+        Scene.type(x, "C05a000000a010000t00001t03001t04001");
+        x.load();
+        shareIs("few after many", x, 2, 0, 1);
     }
 
     private static void forecastsAreNoActions() {

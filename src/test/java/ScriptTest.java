@@ -226,12 +226,12 @@ public final class ScriptTest {
         // Agent 1 works only if it is put on task 1; columns and rows must not be mixed up.
         ClaimedTasks x = Scene.loaded("C05a000000a110000t00009t07029");
         int found = 0;
-        for (int r = 10; r < 20000; r += 16) {
+        for (int r = 10; r < 200000; r += 16) {
             boolean there = r / 64 % 12 == 7 && r / 1024 % 12 == 2;
             if (there) {
                 found++;
                 CHECK.due("put on task 1, r = " + r, x.simulate(seedFor(r), 1), 2);
-            } else if (r / 64 % 12 == 2 || r / 1024 % 12 == 7) {
+            } else if (r / 64 % 12 == 7 && r / 1024 % 12 <= 3 || r / 64 % 12 == 2 && r / 1024 % 12 == 7) {
                 CHECK.due("put elsewhere, r = " + r, x.simulate(seedFor(r), 1), 1);
             }
         }

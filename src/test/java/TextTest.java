@@ -182,6 +182,9 @@ public final class TextTest {
         x.step(4);
         x.save(0);
         x.save(1);
+        // Forecasts leave their own traces inside the object; none may reach what is loaded.
+        x.wastedIf(0, 99);
+        x.simulate(3, 60);
         CHECK.due("load over a state", x.load(), 2);
         int[] want = Scene.allOf(Scene.loaded("C05a000003a000003t00001t05055"));
         CHECK.isTrue("load makes all new", java.util.Arrays.equals(want, Scene.allOf(x)));
