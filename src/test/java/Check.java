@@ -26,6 +26,10 @@ final class Check {
         }
     }
 
+    int wrong() {
+        return wrong;
+    }
+
     void complain(String text) {
         wrong++;
         if (wrong <= 40) {

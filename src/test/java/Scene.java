@@ -65,4 +65,14 @@ final class Scene {
         check.due(call, made.getAsLong(), want);
         check.isTrue(call + " changed the state", Arrays.equals(before, allOf(x)));
     }
+
+    /** The seed with which the first round has this r: the step of x taken backwards. */
+    static long seedFor(long r) {
+        long factor = 6364136223846793005L;
+        long inverse = factor;
+        for (int i = 0; i < 6; i++) {
+            inverse *= 2 - factor * inverse;
+        }
+        return ((r << 33) - 1442695040888963407L) * inverse;
+    }
 }

@@ -174,18 +174,8 @@ public final class ScriptTest {
         CHECK.due("a script is no action", x.undo(), 0);
     }
 
-    /** The seed with which the first round has this r: the step of x taken backwards. */
-    private static long seedFor(long r) {
-        long factor = 6364136223846793005L;
-        long inverse = factor;
-        for (int i = 0; i < 6; i++) {
-            inverse *= 2 - factor * inverse;
-        }
-        return ((r << 33) - 1442695040888963407L) * inverse;
-    }
-
     private static void roundIs(String name, ClaimedTasks x, long r, int want) {
-        SCENE.asked(x, name + ", r = " + r, () -> x.simulate(seedFor(r), 1), want);
+        SCENE.asked(x, name + ", r = " + r, () -> x.simulate(Scene.seedFor(r), 1), want);
     }
 
     private static void simulateSwitches() {
@@ -230,9 +220,9 @@ public final class ScriptTest {
             boolean there = r / 64 % 12 == 7 && r / 1024 % 12 == 2;
             if (there) {
                 found++;
-                CHECK.due("put on task 1, r = " + r, x.simulate(seedFor(r), 1), 2);
+                CHECK.due("put on task 1, r = " + r, x.simulate(Scene.seedFor(r), 1), 2);
             } else if (r / 64 % 12 == 7 && r / 1024 % 12 <= 3 || r / 64 % 12 == 2 && r / 1024 % 12 == 7) {
-                CHECK.due("put elsewhere, r = " + r, x.simulate(seedFor(r), 1), 1);
+                CHECK.due("put elsewhere, r = " + r, x.simulate(Scene.seedFor(r), 1), 1);
             }
         }
         CHECK.isTrue("places were found", found > 0);
@@ -243,16 +233,16 @@ public final class ScriptTest {
         ClaimedTasks x = Scene.loaded("C05a000000t00009");
         long next = (7L << 33) * 6364136223846793005L + 1442695040888963407L;
         int r = (int) (next >>> 33);
-        CHECK.due("two rounds", x.simulate(seedFor(7), 2), r % 8 == 0 || r % 8 == 2 ? 1 : 2);
+        CHECK.due("two rounds", x.simulate(Scene.seedFor(7), 2), r % 8 == 0 || r % 8 == 2 ? 1 : 2);
         ClaimedTasks y = Scene.loaded("C05t00009");
         CHECK.due("without agents", y.simulate(5, 60), 0);
         ClaimedTasks z = Scene.loaded("C05a000000");
         CHECK.due("without tasks", z.simulate(Long.MIN_VALUE, 60), 0);
         // Three agents on one task of work 1: two come too late.
         ClaimedTasks w = Scene.loaded("C05a000000a000000a000000t00001");
-        CHECK.due("progress and waste", w.simulate(seedFor(7), 1), 201);
+        CHECK.due("progress and waste", w.simulate(Scene.seedFor(7), 1), 201);
         w.step(1);
-        CHECK.due("with the waste there was", w.simulate(seedFor(7), 1), 201);
+        CHECK.due("with the waste there was", w.simulate(Scene.seedFor(7), 1), 201);
     }
 
     private static void simulateWrong() {
