@@ -497,6 +497,14 @@ public final class ActionBoundaryTest extends Boundary {
         refused("beyond the range of b", settledWith(x -> x.setRange(1, 0)), x -> x.handOver(0, 1), STATE);
         refused("a is off", settledWith(x -> x.toggle(0)), x -> x.handOver(0, 1), STATE);
         refused("b is off", settledWith(x -> x.toggle(1)), x -> x.handOver(0, 1), STATE);
+        // Agent 2 hears both, but agents 0 and 1 do not hear each other.
+        refused("a message would have to be passed on", () -> {
+            ClaimedTasks x = Scene.loaded("C05a000022a020022a010022t00009");
+            x.step(2);
+            x.setRange(0, 1);
+            x.put(1, 2, 0);
+            return x;
+        }, x -> x.handOver(0, 1), STATE);
         due("in the same place with the range 0", settledWith(x -> x.setRange(0, 0) + x.put(1, 1, 0)).get()
                 .handOver(0, 1), 0);
     }

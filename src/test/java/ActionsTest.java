@@ -1,5 +1,5 @@
 import java.util.Arrays;
-import java.util.function.LongSupplier;
+import java.util.function.ToIntFunction;
 
 /** Promises 11 to 17: the actions beside step, and undo. */
 public final class ActionsTest {
@@ -199,29 +199,29 @@ public final class ActionsTest {
     }
 
     private static void undoOfEach() {
+        takenBack("step", x -> x.step(13));
+        takenBack("setRange", x -> x.setRange(0, 1));
+        takenBack("put", x -> x.put(1, 9, 9));
+        takenBack("toggle", x -> x.toggle(0));
+        takenBack("handOver", x -> x.handOver(0, 1));
+        takenBack("drop", x -> x.drop(0));
+        takenBack("setLifetime", x -> x.setLifetime(3));
+        takenBack("setRange to the same", x -> x.setRange(0, 22));
+        takenBack("put at the same place", x -> x.put(0, 1, 0));
+        takenBack("setLifetime to the same", x -> x.setLifetime(5));
+        takenBack("drop of nothing", x -> x.drop(1));
+    }
+
+    private static void takenBack(String name, ToIntFunction<ClaimedTasks> action) {
         ClaimedTasks x = Scene.loaded(TWO);
         x.step(2);
-        takenBack(x, "step", () -> x.step(13));
-        takenBack(x, "setRange", () -> x.setRange(0, 1));
-        takenBack(x, "put", () -> x.put(1, 9, 9));
-        takenBack(x, "toggle", () -> x.toggle(0));
-        takenBack(x, "handOver", () -> x.handOver(0, 1));
-        takenBack(x, "drop", () -> x.drop(0));
-        takenBack(x, "setLifetime", () -> x.setLifetime(3));
-        takenBack(x, "setRange to the same", () -> x.setRange(0, 22));
-        takenBack(x, "put at the same place", () -> x.put(0, 1, 0));
-        takenBack(x, "setLifetime to the same", () -> x.setLifetime(5));
-        takenBack(x, "drop of nothing", () -> x.drop(1));
+        int[] before = Scene.allOf(x);
+        action.applyAsInt(x);
+        CHECK.due("undo of " + name, x.undo(), 1);
+        CHECK.isTrue("undo of " + name + " does not bring the state back", Arrays.equals(before, Scene.allOf(x)));
         CHECK.due("the last undo", x.undo(), 0);
         CHECK.due("the clock", x.about(2), 0);
         SCENE.refused(x, "undo of nothing", () -> x.undo(), STATE);
-    }
-
-    private static void takenBack(ClaimedTasks x, String name, LongSupplier action) {
-        int[] before = Scene.allOf(x);
-        action.getAsLong();
-        CHECK.due("undo of " + name, x.undo(), 1);
-        CHECK.isTrue("undo of " + name + " does not bring the state back", Arrays.equals(before, Scene.allOf(x)));
     }
 
     private static void undoHasALimit() {

@@ -2,7 +2,26 @@ import java.util.function.LongSupplier;
 
 /** Counts and prints the answers that are not the ones that are due. */
 final class Check {
+    private static final int MOST_SECONDS = 180;
+
     private int wrong;
+
+    /** A class that does not end where it should must not keep the tests waiting for ever. */
+    Check() {
+        Thread watch = new Thread(Check::endTooLongTest);
+        watch.setDaemon(true);
+        watch.start();
+    }
+
+    private static void endTooLongTest() {
+        try {
+            Thread.sleep(1000L * MOST_SECONDS);
+        } catch (InterruptedException e) {
+            return;
+        }
+        System.out.println("not ended after " + MOST_SECONDS + " seconds");
+        Runtime.getRuntime().halt(1);
+    }
 
     void due(String call, long got, long want) {
         if (got != want) {

@@ -240,6 +240,14 @@ public final class ForecastBoundaryTest extends Boundary {
         due("at 2", y.conflicts(2), 2);
         y.step(1);
         due("at 3 they are expired", y.conflicts(2), 0);
+        // Each of six agents holds the claims of the others: of n that are on, each those of 6 - n.
+        ClaimedTasks z = Scene.loaded("C05a000022a010022a020022a030022a040022a050022"
+                + "t00009t01009t02009t03009t04009t05009");
+        z.step(2);
+        for (int n = 5; n >= 0; n--) {
+            z.toggle(n);
+            due("the last " + (6 - n) + " are off", z.conflicts(2), n * (6 - n));
+        }
     }
 
     @Sentence(promise = 21, value = "Throws `IllegalArgumentException` if what is not 0 to 2")
@@ -405,12 +413,15 @@ public final class ForecastBoundaryTest extends Boundary {
     static void rangesFrom0To22Waste() {
         // Agent 0 does task 0 and goes on to (0, 5); agent 1 walks 11 places to task 0, and is
         // never nearer to agent 0 than 5 places before it is there.
-        ClaimedTasks x = Scene.loaded("C20a000022a110000t00001t00059");
-        for (int r = 0; r <= 22; r++) {
-            due("range " + r, x.wastedIf(r, 99), r < 5 ? 1 : 0);
+        for (int own : new int[] {0, 22}) {
+            ClaimedTasks x = Scene.loaded("C20a000022a110000t00001t00059");
+            x.setRange(1, own);
+            for (int r = 0; r <= 22; r++) {
+                due("range " + r + ", not " + own, x.wastedIf(r, 99), r < 5 ? 1 : 0);
+            }
+            due("the range of 0 stays", x.agent(0, 2), 22);
+            due("the range of 1 stays", x.agent(1, 2), own);
         }
-        due("the range of 0 stays", x.agent(0, 2), 22);
-        due("the range of 1 stays", x.agent(1, 2), 0);
     }
 
     @Sentence(promise = 24, value = "Returns the sum of the wasted steps of all agents after n steps (with those that"
@@ -554,6 +565,11 @@ public final class ForecastBoundaryTest extends Boundary {
     static void theSmallestSum() {
         // Agent 0 gives up the task beside it: 1 + 2 instead of 1 + 4.
         shareIs("not each the nearest", Scene.loaded("C05a050000a030000t04001t07001"), 3, 1, 0);
+        ClaimedTasks x = Scene.loaded("C05a050000a000000a030000a040000t04001t07001");
+        x.toggle(1);
+        x.toggle(3);
+        shareIs("one between them and one behind them are off", x, 3, 1, NONE, 0, NONE);
+        shareIs("one between them gets none", Scene.loaded("C05a000000a050500a090000t00001t09001"), 0, 0, NONE, 1);
         shareIs("in opposite order", Scene.loaded("C05a000000a010000a020000a030000a040000a050000"
                 + "t11111t11101t05001t04001t03001t02001t01001t00001"), 0, 7, 6, 5, 4, 3, 2);
     }
@@ -593,6 +609,10 @@ public final class ForecastBoundaryTest extends Boundary {
             y.toggle(a);
         }
         shareIs("all off", y, 0, NONE, NONE, NONE, NONE, NONE, NONE);
+        y.clearText();
+        Scene.type(y, "C05a000000a010000t00001t03001t04001");
+        y.load();
+        shareIs("few after many", y, 2, 0, 1);
     }
 
     @Sentence(promise = 26, value = "Throws `IndexOutOfBoundsException` if a is neither -1 nor an agent")

@@ -8,8 +8,11 @@ import java.util.Random;
 
 /** Sets the class and PlainModel side by side in many runs of calls with a fixed seed. */
 public final class ModelTest {
-    private static final int RUNS = 6000;
+    private static final int RUNS = 4000;
     private static final int CALLS = 90;
+    /** The document promises nothing after so many calls. */
+    private static final int LAST_CALL = 512;
+    private static final int DEAREST_LOOK = 304;
 
     private final Check check = new Check();
     private final Random random = new Random(20261118);
@@ -21,6 +24,7 @@ public final class ModelTest {
     private PlainModel plain;
     private StringBuilder told;
     private boolean same;
+    private int made;
 
     public static void main(String[] args) throws Exception {
         new ModelTest().run();
@@ -50,15 +54,17 @@ public final class ModelTest {
         plain = new PlainModel();
         told = new StringBuilder();
         same = true;
+        made = 0;
         if (random.nextInt(20) > 0) {
             type(text());
             call("errorPosition");
             call("load");
         }
-        for (int i = 0; i < CALLS && same; i++) {
+        for (int i = 0; i < CALLS && same && made + 2 + DEAREST_LOOK <= LAST_CALL; i++) {
             anyCall();
         }
         wholeState();
+        check.isTrue("a run has " + made + " calls", made <= LAST_CALL);
     }
 
     private void type(String text) throws Exception {
@@ -108,11 +114,8 @@ public final class ModelTest {
         int kind = random.nextInt(100);
         if (kind < 25) {
             call("step", random.nextInt(3) == 0 ? 1 + random.nextInt(20) : 1 + random.nextInt(3));
-        } else if (kind < 26) {
-            call("clearText");
-            type(text());
-            call("errorPosition");
-            call("load");
+        } else if (kind < 27) {
+            typeAnew(text());
         } else if (kind < 31) {
             // Agents claim what they can, so a claim is seldom handed over unless b drops its own.
             int a = agent();
@@ -125,6 +128,15 @@ public final class ModelTest {
                     && !(name.equals("restore") && random.nextBoolean())) {
                 call(name, arguments(name));
             }
+        }
+    }
+
+    private void typeAnew(String text) throws Exception {
+        if (made + 3 + text.length() + DEAREST_LOOK <= LAST_CALL) {
+            call("clearText");
+            type(text);
+            call("errorPosition");
+            call("load");
         }
     }
 
@@ -213,6 +225,7 @@ public final class ModelTest {
     }
 
     private void call(String name, Object... args) throws Exception {
+        made++;
         String got = answer(face.get(name), real, args);
         String want = answer(model.get(name), plain, args);
         told.append(' ').append(name).append(java.util.Arrays.toString(args)).append('=').append(want);

@@ -52,6 +52,23 @@ public final class NoteBoundaryTest extends Boundary {
         due("own task at 4", x.agent(0, 4), NONE);
     }
 
+    @Sentence(promise = 0, value = "A claim is expired if its expiry is at most the clock.")
+    static void expiredForLong() {
+        // Agent 1 sleeps with a claim of distance 0 and the expiry 2; agent 0 comes from far away.
+        for (int clock = 2; clock <= 4; clock++) {
+            ClaimedTasks x = Scene.loaded("C02a090022a000022t00009");
+            x.step(1);
+            x.toggle(1);
+            x.step(clock - 1);
+            x.toggle(1);
+            noteIs("agent 0 before", x, 0, 0, 1, 0, 10 - clock, clock + 1);
+            noteIs("agent 1 before", x, 1, 0, 1, 1, 0, 2);
+            x.step(1);
+            noteIs("agent 0 keeps its own, at " + clock, x, 0, 0, 1, 0, 9 - clock, clock + 2);
+            noteIs("agent 1 takes it, at " + clock, x, 1, 0, 1, 0, 10 - clock, clock + 1);
+        }
+    }
+
     @Sentence(promise = 0, value = "one that says that it is finished is better than one that does not;")
     static void finishedIsBetterThanTheBestClaim() {
         // Agent 1 does the last of task 0; agent 0 has a claim of the smallest distance and owner.

@@ -26,7 +26,7 @@ public final class RoomTest {
     private static long oneRun() {
         ClaimedTasks x = Scene.loaded(FULL);
         long before = THREADS.getThreadAllocatedBytes(Thread.currentThread().getId());
-        for (int i = 0; i < 24; i++) {
+        for (int i = 0; i < 19; i++) {
             x.step(1 + i % 3);
             x.setRange(i % 6, i % 23);
             x.put(i % 6, i % 12, i % 11);

@@ -49,11 +49,15 @@ public final class StateBoundaryTest extends Boundary {
         ClaimedTasks y = Scene.loaded("C05a000000t00009");
         y.step(8);
         due("one unit is missing", y.about(4), 0);
-        // A task counts even if nobody knows that it is finished.
-        ClaimedTasks z = crowd();
-        for (int a = 0; a < 6; a++) {
-            z.toggle(a);
-        }
+        // A task counts even if no note says that it is finished: agent 1 hands over its old claim.
+        ClaimedTasks z = Scene.loaded("C09a000022a030000t00001");
+        z.step(1);
+        z.setRange(1, 22);
+        z.handOver(1, 0);
+        due("nobody knows", z.task(0, 5), 0);
+        due("it is finished", z.about(4), 1);
+        z.toggle(0);
+        z.toggle(1);
         due("nobody is on", z.about(4), 1);
     }
 

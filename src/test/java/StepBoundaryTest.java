@@ -181,6 +181,24 @@ public final class StepBoundaryTest extends Boundary {
         due("its own claim is kept", x.agent(1, 4), 1);
     }
 
+    @Sentence(promise = 0, value = "An expired claim becomes empty.")
+    static void soDoesAClaimThatHasLongBeenExpired() {
+        // Agent 1 sleeps with its own claim of task 1 and that of agent 0 of task 0, with the expiry 3.
+        for (int slept = 1; slept <= 4; slept++) {
+            ClaimedTasks x = Scene.loaded("C03a000022a050022t00009t05009");
+            x.step(2);
+            x.toggle(0);
+            x.toggle(1);
+            x.step(slept);
+            x.put(1, 11, 11);
+            x.toggle(1);
+            noteIs("before", x, 1, 0, 1, 0, 0, 3);
+            x.step(1);
+            due("kind after " + slept, x.note(1, 0, 0), 0);
+            due("its own claim is kept, or made anew", x.agent(1, 4), 1);
+        }
+    }
+
     // ---- part 2
 
     /** Agent 0 stands at (1, 0) and owns task 1 by a handover, task 0 by what agent 1 still believes. */

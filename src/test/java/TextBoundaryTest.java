@@ -1,3 +1,5 @@
+import java.util.List;
+import java.util.function.Supplier;
 import java.util.function.ToIntFunction;
 
 /** Boundary cases of the document's section TEXT, and of promises 1 to 5. */
@@ -259,14 +261,21 @@ public final class TextBoundaryTest extends Boundary {
 
     @Sentence(promise = 1, value = "Creates a grid without agents and tasks.")
     static void objectsShareNothing() {
-        ClaimedTasks x = Boundary.busy();
-        x.step(1);
-        same("a new object beside one in use", Whole.of(ClaimedTasks::new), Whole.of(() -> usedBefore(new ClaimedTasks())));
+        List<Supplier<ClaimedTasks>> makers = List.of(ClaimedTasks::new, Boundary::busy, Boundary::full);
+        for (Supplier<ClaimedTasks> one : makers) {
+            for (Supplier<ClaimedTasks> other : makers) {
+                same("an object beside another one", Whole.of(() -> besideAnother(one.get(), other)), Whole.of(one));
+            }
+        }
     }
 
-    private static ClaimedTasks usedBefore(ClaimedTasks made) {
-        Boundary.full();
-        return made;
+    private static ClaimedTasks besideAnother(ClaimedTasks one, Supplier<ClaimedTasks> other) {
+        ClaimedTasks y = other.get();
+        y.step(1);
+        y.save(0);
+        y.save(1);
+        y.clearText();
+        return one;
     }
 
     // ---- promise 2
@@ -369,7 +378,8 @@ public final class TextBoundaryTest extends Boundary {
             + " is 0.")
     static void loadReplacesEverything() {
         for (String text : new String[] {"C01", "C20a000000", "C09t11119", "C05" + SIX_AGENTS + EIGHT_TASKS, TWO}) {
-            ClaimedTasks x = Boundary.full();
+            ClaimedTasks x = Scene.loaded("C20" + SIX_AGENTS + EIGHT_TASKS);
+            x.step(14);
             x.toggle(0);
             x.clearText();
             Scene.type(x, text);
