@@ -609,10 +609,12 @@ public final class ForecastBoundaryTest extends Boundary {
             y.toggle(a);
         }
         shareIs("all off", y, 0, NONE, NONE, NONE, NONE, NONE, NONE);
-        y.clearText();
-        Scene.type(y, "C05a000000a010000t00001t03001t04001");
-        y.load();
-        shareIs("few after many", y, 2, 0, 1);
+        ClaimedTasks z = Scene.loaded("C05" + "a000000".repeat(6) + "t00001".repeat(3));
+        due("more agents than tasks", z.bestShare(-1), 0);
+        z.clearText();
+        Scene.type(z, "C05a010000a020000t00001t04001t05001");
+        z.load();
+        shareIs("few agents after many", z, 3, 0, 1);
     }
 
     @Sentence(promise = 26, value = "Throws `IndexOutOfBoundsException` if a is neither -1 nor an agent")
