@@ -136,6 +136,28 @@ public final class NoteBoundaryTest extends Boundary {
         noteIs("agent 1 at 3", x, 1, 0, 1, 0, 4, 3);
     }
 
+    @Sentence(promise = 0, value = "a claim that is not expired is better than an empty note or an expired claim;")
+    static void aNearerExpiredClaimTakesNothingAway() {
+        // Agent 0 works on task 1 and has heard of agent 2's claim of task 0: it would not claim
+        // task 0 itself, so that the loss of this note would be seen.
+        ClaimedTasks x = Scene.loaded("C02a090022a000022a040022t00009t09009");
+        x.toggle(0);
+        x.toggle(2);
+        x.step(1);
+        x.toggle(1);
+        x.toggle(0);
+        x.toggle(2);
+        x.setLifetime(20);
+        x.step(2);
+        x.toggle(2);
+        x.toggle(1);
+        noteIs("agent 0 at 3", x, 0, 0, 1, 2, 4, 21);
+        noteIs("agent 1 at 3", x, 1, 0, 1, 1, 0, 2);
+        x.step(1);
+        noteIs("agent 0 at 4", x, 0, 0, 1, 2, 4, 21);
+        noteIs("agent 1 at 4", x, 1, 0, 1, 2, 4, 21);
+    }
+
     @Sentence(promise = 0, value = "of two claims that are not expired the one with the smaller distance,")
     static void theSmallerDistanceIsBetter() {
         // The greater owner is one place nearer.
